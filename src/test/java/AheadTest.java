@@ -55,6 +55,13 @@ public final class AheadTest {
         Check.nights(x, 2);
         c.due("when(1, -1) while it is down", x.when(1, -1), UNKNOWN);
         c.due("when(1, 4) while it is down", x.when(1, 4), 2);
+
+        x = Check.town("012345678905;ca,ca,ca,ca,ca,sa");
+        x.swap(0, 5);
+        c.due("where(2, 201)", x.where(2, 201), 9);
+        c.due("when(2, 9) behind 201 nights", x.when(2, 9), NONE);
+        x.night();
+        c.due("when(2, 9) behind 200 nights", x.when(2, 9), 200);
     }
 
     private static void neighbours(Check c) {
@@ -96,6 +103,14 @@ public final class AheadTest {
         c.due("again() behind a swap", x.again(), NONE);
         x = Check.town("012345678905;ha,hb,hc,hd,he");
         c.due("again() of five", x.again(), 60);
+        // Behind 8 nights only house 0 stands otherwise, on plot 11.
+        x = Check.town("012345678905;ha,sb");
+        c.due("where(0, 8)", x.where(0, 8), 11);
+        c.due("where(1, 8)", x.where(1, 8), 1);
+        c.due("again() of a house and a shop", x.again(), NONE);
+        x.night();
+        x.night();
+        c.due("again() two nights later", x.again(), 8);
     }
 
     private static void post(Check c) {
@@ -146,6 +161,7 @@ public final class AheadTest {
     }
 
     private static void trades(Check c) {
+        c.due("rings() of a new town", Check.town("012345678905;hb,ha,hd,hc").rings(), 2);
         trade(c, Check.town("012345678905;ha,hb"), 0, 0, 1);
         trade(c, Check.town("012345678905;hb,ha"), 1, 1, 0);
         trade(c, Check.town("012345678905;hb,hc,ha"), 1, 1, 2, 0);

@@ -40,7 +40,7 @@ public final class AllTest {
         c.due("down for", x.count(4), 2);
         c.due("wishes", x.count(8), 1);
         c.due("seen", x.count(9), 2);
-        c.due("order(10) by the wish that was kept", x.order(0), 1);
+        c.due("order(0) by the wish that was kept", x.order(0), 1);
         Check.nights(x, 3);
         c.due("restore() a second time", x.restore(), 2);
         c.dueAll("plots", Check.plots(x), 3, NONE, 2);
@@ -52,8 +52,28 @@ public final class AllTest {
         c.due("orders stay", x.count(12), 2);
         x.night();
         c.due("a later image()", x.image(), 3);
+        imageOfNotes(c);
         x.night();
         c.due("restore() of the later one", x.restore(), 3);
+    }
+
+    private static void imageOfNotes(Check c) {
+        TurningTown x = Check.town("012345678905;ha,hb");
+        x.wish(1, 2, 1);
+        x.see(0, 2, 2);
+        x.image();
+        c.due("order(10) by a wish", x.order(10), 1);
+        c.due("house(0, 5) by what is seen", x.house(0, 5), 1 | 2);
+        x.give();
+        x.forget();
+        x.wish(0, 9, 2);
+        x.see(1, 9, 1);
+        c.due("order(10) by another wish", x.order(10), 0);
+        c.due("house(0, 5) by another sight", x.house(0, 5), 31);
+        x.restore();
+        c.due("order(10) by the wish that was kept", x.order(10), 1);
+        c.due("house(0, 5) by what was kept", x.house(0, 5), 1 | 2);
+        c.due("house(1, 5) by what was kept", x.house(1, 5), 31);
     }
 
     private static void imageAndSquares(Check c) {

@@ -128,6 +128,7 @@ public final class NightTest {
         night(c, x, 1, 4, 0, 3, 4, 2);
     }
 
+    /** No 512 calls come so far; but what is told of 999 nights is held to all the same. */
     private static void full(Check c) {
         TurningTown x = Check.town("012345678905;ha,ca,ha");
         for (int i = 0; i < 998; i++) {

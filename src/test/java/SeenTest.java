@@ -80,6 +80,9 @@ public final class SeenTest {
         }
         x.forget();
         dueKinds(c, x, 0, 31, 4);
+        TurningTown late = Check.town("012345678905;sa,ca,sa,ea,ea");
+        Check.nights(late, 3);
+        dueKinds(c, late, 1, 31, 40);
         // The other one's kind does.
         x.build(0, 0);
         x.build(1, 3);
@@ -144,7 +147,14 @@ public final class SeenTest {
         c.due("years(1, MIN, 0)", x.years(1, Integer.MIN_VALUE, 0), OUTSIDE);
         c.due("years(1, 0, 3)", x.years(1, 0, 3), OUTSIDE);
         c.due("years(1, 0, -1)", x.years(1, 0, -1), OUTSIDE);
-        c.due("years(60, 1, 0) at most", x.years(60, 1, 0) <= 60 ? 1 : 0, 1);
+        long seed = 2147480000L;
+        int dry = 0;
+        for (int night = 1; night <= 60; night++) {
+            seed = (1103515245L * seed + 12345) % 2147483648L;
+            dry += (seed >> 16) % 4 == 0 ? 0 : 1;
+            c.due("years(" + night + ", 2147480000, 0)", x.years(night, 2147480000, 0), dry);
+            c.due("years(" + night + ", 2147480000, 2)", x.years(night, 2147480000, 2), seed);
+        }
         c.due("no night has gone", x.count(5), 0);
     }
 
