@@ -684,8 +684,9 @@ public final class TurningTown {
         }
 
         private void leavePlot(int house) {
-            if (!isDown(house)) {
-                standsOn[plotOf[house]] = NONE;
+            int own = plotOf[house];
+            if (own != NONE) {
+                standsOn[own] = NONE;
                 plotOf[house] = NONE;
             }
         }
