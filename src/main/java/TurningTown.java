@@ -427,11 +427,12 @@ public final class TurningTown {
             sum = 31L * sum + where(house, 5);
             sum = 31L * sum + will(house, 9);
         }
+        // A refusal of again() or rings() is no number of theirs, and does not go in.
         if (hasSquare()) {
             sum = withPlots(sum);
+            sum = 31L * sum + again();
+            sum = 31L * sum + rings();
         }
-        sum = 31L * sum + again();
-        sum = 31L * sum + rings();
         for (int place = 0; place < page.size; place++) {
             sum = 31L * sum + page.letters[place];
         }

@@ -119,22 +119,17 @@ public final class AllTest {
 
     private static void digestOfNothing(Check c) {
         TurningTown x = new TurningTown();
-        long due = 1193;
-        due = 31 * due + STATE;
-        due = 31 * due + STATE;
-        for (int what = 0; what < 13; what++) {
-            due = 31 * due;
-        }
-        c.due("digest() of a new object", x.digest(), due);
+        // Without a SQUARE neither plots nor AGAIN nor rings() go in, not even as STATE.
+        c.due("digest() of a new object", x.digest(), 2723840464553809399L);
         x.letter('a');
         x.letter('b');
-        due = 31 * (31 * 1193L + STATE) + STATE;
-        due = 31 * due + 'a';
-        due = 31 * due + 'b';
+        long due = 31 * (31 * 1193L + 'a') + 'b';
         for (int what = 0; what < 13; what++) {
             due = 31 * due + (what == 10 ? 2 : 0);
         }
         c.due("digest() with two letters", x.digest(), due);
+        x.square();
+        c.due("digest() behind a page that is no square", x.digest(), due);
     }
 
     private static void digestOfATown(Check c) {

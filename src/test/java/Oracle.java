@@ -650,8 +650,10 @@ final class Oracle {
                 told.add(plot(plot, what));
             }
         }
-        told.add(again());
-        told.add(rings());
+        if (stand != null) {
+            told.add(again());
+            told.add(rings());
+        }
         for (char letter : page.toString().toCharArray()) {
             told.add((int) letter);
         }
