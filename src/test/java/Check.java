@@ -1,13 +1,31 @@
+import java.util.LinkedHashMap;
+import java.util.Map;
+
 /** Counts answers that are not as due, and makes towns from texts. */
 final class Check {
+    private final Map<String, Integer> answersTo = new LinkedHashMap<>();
+    private String sentence;
     private int calls;
     private int wrong;
 
+    /** What follows is due by this sentence of the document; each has a test of its own. */
+    void sentence(String told) {
+        if (answersTo.containsKey(told)) {
+            throw new IllegalArgumentException("told twice: " + told);
+        }
+        sentence = told;
+        answersTo.put(told, 0);
+    }
+
     void due(String call, long got, long want) {
         calls++;
+        if (sentence != null) {
+            answersTo.merge(sentence, 1, Integer::sum);
+        }
         if (got != want) {
             wrong++;
-            System.out.println(call + " answered " + got + ", due is " + want);
+            System.out.println((sentence == null ? "" : "[" + sentence + "] ")
+                + call + " answered " + got + ", due is " + want);
         }
     }
 
@@ -19,7 +37,14 @@ final class Check {
     }
 
     void end() {
-        System.out.println(calls + " answers, " + wrong + " not as due");
+        for (Map.Entry<String, Integer> told : answersTo.entrySet()) {
+            if (told.getValue() == 0) {
+                wrong++;
+                System.out.println("[" + told.getKey() + "] has no answer");
+            }
+        }
+        System.out.println((sentence == null ? "" : answersTo.size() + " sentences, ")
+            + calls + " answers, " + wrong + " not as due");
         if (wrong != 0) {
             System.exit(1);
         }
